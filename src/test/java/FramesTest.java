@@ -65,6 +65,20 @@ public final class FramesTest {
         Expect.same("the same shape: the file", again.check(0, size), check);
         Expect.same("after shape any time does", again.frame(0), 0);
         Expect.same("a new frame has samples 0", again.get(0, 0, 1, 1), 0);
+        samplesBecomeZero();
+    }
+
+    private static void samplesBecomeZero() {
+        FrameVault vault = new FrameVault();
+        for (int round = 0; round < 2; round++) {
+            vault.shape(2, 2, 3);
+            vault.frame(round);
+            vault.frame(round + 1);
+            for (int place = 0; place < 24; place++) {
+                int was = vault.set(place / 12, place / 4 % 3, place % 2, place / 2 % 2, 255 - place);
+                Expect.same("a sample of a new frame", was, 0);
+            }
+        }
     }
 
     private static void frame() {

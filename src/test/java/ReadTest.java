@@ -167,6 +167,14 @@ public final class ReadTest {
         due("size behind its parent", 3, b(26, 129, 66, 129, 1), e(24, body));
         due("second byte behind its parent", 3, b(26, 130, 66, 64, 1, 1), e(24, body));
         due("no version", 2, b(26, 128), e(24, body));
+        due("the version behind its parent", 2, b(26, 128), e(66, b(1)), e(24, body));
+        due("size 255 with 127 bytes", 1, b(236, 255), new int[127], HEAD, e(24, body));
+        due("127 bytes", NONE, wide(236, new int[127]), HEAD, e(24, body));
+        due("255 bytes", NONE, e(236, new int[255]), HEAD, e(24, body));
+        due("256 bytes", NONE, e(236, new int[256]), HEAD, e(24, body));
+        due("a file of 1200 bytes", NONE, HEAD, e(24, track(1, 1, 1, 1)), e(236, new int[1176]));
+        due("a file of 1200 bytes, beyond its end", 22, HEAD, e(24, track(1, 1, 1, 1)), b(236, 68, 153),
+                new int[1176]);
         due("time of one byte", 24, HEAD, e(24, track(1, 1, 1, 1), e(31, e(231, b(9)), e(163))));
         due("time of three bytes", 24, HEAD, e(24, track(1, 1, 1, 1), e(31, e(231, b(0, 0, 9)), e(163))));
         due("no time", 23, HEAD, e(24, track(1, 1, 1, 1), e(31)));
@@ -212,6 +220,10 @@ public final class ReadTest {
         due("a later time", NONE, HEAD, e(24, one, dot(255), dot(256)));
         due("a frame with two blocks", 34, HEAD, e(24, one,
                 e(31, e(231, b(0, 9)), e(163, DocModel.sealed(b(0x80))), e(163, DocModel.sealed(b(0x80))))));
+        due("a frame in the track", 21, HEAD, e(24, e(174, e(176, b(1)), e(186, b(1)), e(83, b(1)), e(84, b(1)),
+                dot(1))));
+        due("a frame in a frame", 34, HEAD, e(24, one,
+                e(31, e(231, b(0, 9)), e(163, DocModel.sealed(b(0x80))), dot(10))));
         due("the block first", 23, HEAD, e(24, one, e(31, e(163, DocModel.sealed(b(0x80))), e(231, b(0, 9)))));
     }
 
@@ -238,6 +250,8 @@ public final class ReadTest {
         blockDue("no bytes", 31, 2, b(0, 0, 255, 255), zero);
         blockDue("no bytes, and a wrong check", 31, 2, b(0, 0, 255, 254), zero);
         blockDue("wrong bits at the end", 31, 2, DocModel.sealed(b(0x81)), zero);
+        blockDue("far too many bytes", 34, 2, DocModel.sealed(new int[300]), zero);
+        blockDue("256 bytes, and a wrong check", 290, 2, b(1, 0), new int[256], b(1, 2), zero);
         blockDue("a byte too many", 31, 2, DocModel.sealed(b(0x80, 0)), zero);
         blockDue("too few bytes", 31, 2, DocModel.sealed(b(0)), zero);
         blockDue("the second one is wrong", 36, 2, zero, DocModel.sealed(b(0x83)));

@@ -1,4 +1,7 @@
+import java.util.Arrays;
 import java.util.Random;
+import java.util.Set;
+import java.util.TreeSet;
 
 /** Promise 8: write, by bytes worked out by hand and against the model of the document. */
 public final class WriteTest {
@@ -36,8 +39,8 @@ public final class WriteTest {
 
     private static void dueSlice(int sample, int mode, int... due) {
         int[] got = sliceOfOne(sample, mode);
-        Expect.same("sample " + sample + ", mode " + mode, java.util.Arrays.toString(got),
-                java.util.Arrays.toString(due));
+        Expect.same("sample " + sample + ", mode " + mode, Arrays.toString(got),
+                Arrays.toString(due));
     }
 
     private static void byHand() {
@@ -93,22 +96,25 @@ public final class WriteTest {
 
     /** An element of 126 bytes has a size of one byte, one of 127 has a size of two. */
     private static void sizesOfTwoBytes() {
-        boolean[] seen = new boolean[2];
+        Set<Integer> blocks = new TreeSet<>(Arrays.asList(126, 127));
+        Set<Integer> bodies = new TreeSet<>(Arrays.asList(126, 127, 255, 256, 511, 512));
         Random random = new Random(5);
-        for (int n = 0; n < 3000 && !(seen[0] && seen[1]); n++) {
+        for (int n = 0; n < 20000 && !(blocks.isEmpty() && bodies.isEmpty()); n++) {
             DocModel.Picture picture = new DocModel.Picture();
             picture.width = 6;
             picture.height = 6;
             picture.planes = 3;
             picture.mode = n % 2;
-            fill(picture.add(7), random, 60 + n % 140);
-            int block = DocModel.blockOf(picture, 0).length;
-            if (block == 126 || block == 127) {
-                seen[block - 126] = true;
+            for (int frame = 0; frame <= n % 3; frame++) {
+                fill(picture.add(frame), random, 1 + random.nextInt(256));
+            }
+            int[] due = DocModel.fileOf(picture);
+            int body = due.length - (due[6] < 128 ? 8 : 7);
+            if (bodies.remove(body) | blocks.remove(DocModel.blockOf(picture, 0).length)) {
                 compare(picture);
             }
         }
-        Expect.yes("both sizes were met", seen[0] && seen[1]);
+        Expect.yes("all sizes were met but " + blocks + bodies, blocks.isEmpty() && bodies.isEmpty());
     }
 
     private static void compare(DocModel.Picture picture) {

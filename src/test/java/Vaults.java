@@ -51,6 +51,9 @@ final class Vaults {
         Expect.same(what + ": width", vault.about(1), picture.width);
         Expect.same(what + ": height", vault.about(2), picture.height);
         Expect.same(what + ": planes", vault.about(3), picture.planes);
+        if (vault.about(1) != picture.width || vault.about(2) != picture.height || vault.about(3) != picture.planes) {
+            return;
+        }
         for (int frame = 0; frame < picture.times.size() && frame < vault.about(0); frame++) {
             Expect.same(what + ": time", vault.time(frame), picture.times.get(frame));
             for (int plane = 0; plane < picture.planes; plane++) {

@@ -43,29 +43,50 @@ final class DocModel {
     /** What codes the differences of one slice. */
     static final class Pen {
         private final int mode;
+        private final Rules rules;
         private String bits = "";
         private BigInteger low = BigInteger.ZERO;
-        private int range = 65280;
+        private int range;
         private int times256 = 0;
         private final int[][] states;
         private final int[] sums;
         private final int[] counts;
 
         Pen(int mode) {
+            this(mode, new Rules());
+        }
+
+        Pen(int mode, Rules rules) {
             this.mode = mode;
-            this.states = new int[126][19];
+            this.rules = rules;
+            this.range = rules.firstRange;
+            this.states = new int[63 * 3][20];
+            this.sums = new int[63 * 3];
+            this.counts = new int[63 * 3];
+            makeContextsNew();
+        }
+
+        private void makeContextsNew() {
             for (int[] own : states) {
-                Arrays.fill(own, 128);
+                Arrays.fill(own, rules.firstState);
             }
-            this.sums = new int[126];
-            this.counts = new int[126];
-            Arrays.fill(sums, 4);
-            Arrays.fill(counts, 1);
+            Arrays.fill(sums, rules.firstSum);
+            Arrays.fill(counts, rules.firstCount);
+        }
+
+        /** The contexts of another slice, for rules by which they are not made new. */
+        void goOnFrom(Pen before) {
+            for (int context = 0; context < states.length; context++) {
+                states[context] = before.states[context].clone();
+                sums[context] = before.sums[context];
+                counts[context] = before.counts[context];
+            }
         }
 
         /** A copy that shares all states but those of the context that comes next. */
         private Pen(Pen pen, int context) {
             mode = pen.mode;
+            rules = pen.rules;
             bits = pen.bits;
             low = pen.low;
             range = pen.range;
@@ -95,17 +116,18 @@ final class DocModel {
 
         private void putBits(int context, int e) {
             int k = 0;
-            while (counts[context] * Math.pow(2, k) < sums[context]) {
+            while (counts[context] * Math.pow(2, k) < sums[context] + rules.sumMustBeBelow) {
                 k++;
             }
             int m = e >= 0 ? 2 * e : -2 * e - 1;
             int w = m / (1 << k);
-            bits += w < 12 ? "0".repeat(w) + "1" + digits(m, k) : "0".repeat(12) + digits(m, 9);
+            bits += w < rules.mostZeros ? "0".repeat(w) + "1" + digits(m, k)
+                    : "0".repeat(rules.mostZeros) + digits(m, rules.wholeBits);
             sums[context] += Math.abs(e);
             counts[context] += 1;
-            if (counts[context] == 16) {
-                counts[context] = 8;
-                sums[context] = sums[context] / 2;
+            if (counts[context] == rules.fullCount) {
+                counts[context] = rules.halfCount;
+                sums[context] = (sums[context] + rules.halfRoundsUp) / 2;
             }
         }
 
@@ -120,13 +142,13 @@ final class DocModel {
             for (int i = 0; i < n; i++) {
                 bit(own, 1 + i, true);
             }
-            if (n < 8) {
+            if (n < rules.mostPower) {
                 bit(own, 1 + n, false);
             }
             for (int i = n - 1; i >= 0; i--) {
-                bit(own, 10 + i, binary.charAt(n - i) == '1');
+                bit(own, rules.firstDigitState + i, binary.charAt(n - i) == '1');
             }
-            bit(own, 18, e < 0);
+            bit(own, rules.signState, e < 0);
         }
 
         private void bit(int[] own, int which, boolean one) {
@@ -135,12 +157,12 @@ final class DocModel {
             if (one) {
                 low = low.add(BigInteger.valueOf(range - h));
                 range = h;
-                own[which] = s + ((256 - s) >> 4);
+                own[which] = s + ((rules.stateTop - s) >> rules.growShift);
             } else {
                 range = range - h;
-                own[which] = s - (s >> 4);
+                own[which] = s - (s >> rules.fallShift);
             }
-            while (range < 256) {
+            while (range < rules.leastRange) {
                 range = range * 256;
                 low = low.multiply(BigInteger.valueOf(256));
                 times256++;
@@ -148,8 +170,8 @@ final class DocModel {
         }
 
         int[] bytes() {
-            int[] bytes = new int[mode == 0 ? (bits.length() + 7) / 8 : times256 + 2];
-            String padded = bits + "0000000";
+            int[] bytes = new int[mode == 0 ? (bits.length() + 7) / 8 : times256 + rules.moreDigits];
+            String padded = bits + rules.lastBits;
             BigInteger rest = low;
             for (int i = bytes.length - 1; i >= 0; i--) {
                 if (mode == 0) {
@@ -191,86 +213,89 @@ final class DocModel {
     }
 
     /** The values of a place of the samples. */
-    static int[] valuesOf(int[][][] samples, int y, int x) {
+    private static int[] valuesOf(int[][][] samples, int y, int x, Rules rules) {
         if (samples.length == 1) {
             return new int[] {samples[0][y][x]};
         }
         int r = samples[0][y][x];
         int g = samples[1][y][x];
         int b = samples[2][y][x];
-        return new int[] {Math.floorDiv(2 * g + b + r, 4), b - g, r - g};
-    }
-
-    private static int q(int d) {
-        return d < 0 ? -q(-d) : d == 0 ? 0 : d < 5 ? 1 : 2;
+        return new int[] {g + rules.quarter.applyAsInt(b - g + r - g), b - g, r - g};
     }
 
     /** The guess and c at a place of a plane of values whose slice begins at row first. */
-    static int[] guessAndContext(int[][] plane, int first, int y, int x) {
+    static int[] guessAndContext(int[][] plane, int first, int y, int x, Rules rules) {
         int last = plane[y].length - 1;
-        int t = y == first ? 0 : plane[y - 1][x];
-        int l = x == 0 ? t : plane[y][x - 1];
-        int tl = y == first ? 0 : x == 0 ? t : plane[y - 1][x - 1];
-        int tr = y == first ? 0 : x == last ? t : plane[y - 1][x + 1];
+        boolean top = y == 0 || y == first && !rules.looksAboveTheSlice;
+        int t = top ? 0 : plane[y - 1][x];
+        int l = x > 0 ? plane[y][x - 1] : rules.leftIsNone ? 0 : t;
+        int tl = top ? 0 : x > 0 ? plane[y - 1][x - 1] : rules.aboveLeftIsNone ? 0 : t;
+        int tr = top ? 0 : x < last ? plane[y - 1][x + 1] : rules.aboveRightIsNone ? 0 : t;
         int[] three = {l, t, l + t - tl};
         Arrays.sort(three);
-        return new int[] {three[1], 25 * q(l - tl) + 5 * q(tl - t) + q(t - tr)};
+        return new int[] {rules.guessIsNotClamped ? l + t - tl : three[1],
+            25 * rules.q[0].applyAsInt(l - tl) + 5 * rules.q[1].applyAsInt(tl - t) + rules.q[2].applyAsInt(t - tr)};
     }
 
     /** The context in its set and e, turned where c is below 0. */
-    private static int[] contextAndE(int plane, int value, int[] guessAndContext) {
-        int m = plane == 0 ? 256 : 512;
+    private static int[] contextAndE(int plane, int value, int[] guessAndContext, Rules rules) {
+        int m = rules.modulus[plane];
+        int least = -m / 2 + rules.leastIsHigher[plane];
         int e = value - guessAndContext[0];
-        while (e < -m / 2) {
+        while (e < least) {
             e += m;
         }
-        while (e > m / 2 - 1) {
+        while (e > least + m - 1) {
             e -= m;
         }
         int c = guessAndContext[1];
-        if (c < 0) {
+        if (c < rules.turnedBelow) {
             c = -c;
-            e = e == -m / 2 ? e : -e;
+            e = e == -m / 2 && !rules.leastIsTurned[plane] ? e : -e;
         }
-        return new int[] {plane == 0 ? c : 63 + c, e};
+        return new int[] {63 * rules.set[plane] + c, e};
     }
 
     static int[] sliceOf(int[][][] samples, int mode, int first, int end) {
+        return written(samples, new Pen(mode), first, end, new Rules()).bytes();
+    }
+
+    private static Pen written(int[][][] samples, Pen pen, int first, int end, Rules rules) {
         int width = samples[0][0].length;
         int[][][] values = new int[samples.length][samples[0].length][width];
-        for (int y = first; y < end; y++) {
+        for (int y = 0; y < end; y++) {
             for (int x = 0; x < width; x++) {
-                int[] here = valuesOf(samples, y, x);
+                int[] here = valuesOf(samples, y, x, rules);
                 for (int plane = 0; plane < values.length; plane++) {
                     values[plane][y][x] = here[plane];
                 }
             }
         }
-        Pen pen = new Pen(mode);
         for (int plane = 0; plane < values.length; plane++) {
             for (int y = first; y < end; y++) {
                 for (int x = 0; x < width; x++) {
-                    int[] around = guessAndContext(values[plane], first, y, x);
-                    int[] code = contextAndE(plane, values[plane][y][x], around);
+                    int[] around = guessAndContext(values[plane], first, y, x, rules);
+                    int[] code = contextAndE(plane, values[plane][y][x], around, rules);
                     pen.put(code[0], code[1]);
                 }
             }
         }
-        return pen.bytes();
+        return pen;
     }
 
     /** Puts into the samples those that give the slice: whether there are any. */
     static boolean findSamples(int[] slice, int[][][] samples, int mode, int first, int end) {
         int width = samples[0][0].length;
         int[][][] values = new int[samples.length][samples[0].length][width];
+        Rules rules = new Rules();
         Pen pen = new Pen(mode);
         for (int plane = 0; plane < values.length; plane++) {
             for (int y = first; y < end; y++) {
                 for (int x = 0; x < width; x++) {
-                    int[] around = guessAndContext(values[plane], first, y, x);
+                    int[] around = guessAndContext(values[plane], first, y, x, rules);
                     Pen next = null;
                     for (int v = plane == 0 ? 0 : -255; v <= 255 && next == null; v++) {
-                        int[] code = contextAndE(plane, v, around);
+                        int[] code = contextAndE(plane, v, around, rules);
                         Pen trial = pen.copyFor(code[0]);
                         trial.put(code[0], code[1]);
                         if (trial.mayBegin(slice)) {
@@ -322,45 +347,75 @@ final class DocModel {
         return new int[] {number >> 8, number & 255};
     }
 
-    /** An element, its size as long as it is written, or of two bytes if so asked. */
+    /** An element, its size of one byte, or of two if so asked or if one cannot be. */
     static int[] element(int id, boolean wide, int[]... parts) {
         int[] content = join(parts);
         int[] size = {128 + content.length};
-        if (wide || content.length > 126) {
+        if (wide || content.length > 127) {
             size = new int[] {64 + content.length / 256, content.length % 256};
         }
         return join(new int[] {id}, size, content);
     }
 
     static int[] element(int id, int[]... parts) {
-        return element(id, false, parts);
+        return elementBy(new Rules(), id, parts);
     }
 
     static int[] sealed(int[] slice) {
         return join(big(slice.length), slice, big(checkOf(slice)));
     }
 
+    private static int[] elementBy(Rules rules, int id, int[]... parts) {
+        return element(id, join(parts).length > rules.mostInOneByte, parts);
+    }
+
     static int[] blockOf(Picture picture, int frame) {
+        return blockOf(picture, frame, new Rules());
+    }
+
+    static int[] blockOf(Picture picture, int frame, Rules rules) {
         int[] block = new int[0];
-        for (int i = 0; i < picture.slices; i++) {
-            int first = i * picture.height / picture.slices;
-            int end = (i + 1) * picture.height / picture.slices;
-            block = join(block, sealed(sliceOf(picture.samples.get(frame), picture.mode, first, end)));
+        int n = picture.slices;
+        Pen before = null;
+        for (int i = 0; i < n; i++) {
+            int first = (i * picture.height + rules.rowsRoundUp * (n - 1)) / n;
+            int end = ((i + 1) * picture.height + rules.rowsRoundUp * (n - 1)) / n;
+            Pen pen = new Pen(picture.mode, rules);
+            if (before != null && rules.contextsGoOn) {
+                pen.goOnFrom(before);
+            }
+            before = written(picture.samples.get(frame), pen, first, end, rules);
+            block = join(block, sealed(pen.bytes()));
         }
         return block;
     }
 
     static int[] fileOf(Picture picture) {
+        return fileOf(picture, new Rules());
+    }
+
+    static int[] fileOf(Picture picture, Rules rules) {
         int[] body = element(174, element(176, new int[] {picture.width}), element(186, new int[] {picture.height}),
                 element(83, new int[] {picture.planes}), element(84, new int[] {16 * picture.mode + picture.slices}));
         for (int frame = 0; frame < picture.times.size(); frame++) {
             int[] time = element(231, big(picture.times.get(frame)));
-            body = join(body, element(31, time, element(163, blockOf(picture, frame))));
+            int[] block = elementBy(rules, 163, blockOf(picture, frame, rules));
+            body = join(body, elementBy(rules, 31, time, block));
         }
-        return join(element(26, element(66, new int[] {1})), element(24, body));
+        return join(element(26, element(66, new int[] {1})), elementBy(rules, 24, body));
     }
 
     // Reading
+
+    /** Where a file fails; or -1, and found[0] is the picture that it has. */
+    static int read(int[] file, Picture[] found) {
+        try {
+            found[0] = new Reader(file).picture();
+            return -1;
+        } catch (Fault fault) {
+            return fault.place;
+        }
+    }
 
     /** Where a file fails. */
     static final class Fault extends RuntimeException {

@@ -1,11 +1,24 @@
 import java.util.function.Consumer;
 import java.util.function.Supplier;
+import java.util.function.ToLongFunction;
 
 /** What the tests look at: answers, exceptions, and that a call changed nothing. */
 final class Expect {
     private static int wrong = 0;
+    private static String sentence = "";
 
     private Expect() {
+    }
+
+    /** The test of one sentence of the document; what is not as due is told with its words. */
+    static void sentence(String where, String words, Runnable test) {
+        sentence = where + " (" + words + "): ";
+        try {
+            test.run();
+        } catch (RuntimeException e) {
+            tell("ended with " + e);
+        }
+        sentence = "";
     }
 
     static void same(String what, long got, long due) {
@@ -47,21 +60,42 @@ final class Expect {
         same(what + ", refused: the state", stateOf(vault), before);
     }
 
+    /** The call must be taken, with this answer. */
+    static void taken(Supplier<FrameVault> maker, String what, long due, ToLongFunction<FrameVault> call) {
+        try {
+            same(what, call.applyAsLong(maker.get()), due);
+        } catch (RuntimeException e) {
+            tell(what + " threw " + e.getClass().getSimpleName() + ", due is " + due);
+        }
+    }
+
+    /** The call must be taken just if it may be, and refused in this way otherwise. */
+    static void takenIf(boolean may, Supplier<FrameVault> maker, String what, Class<? extends RuntimeException> kind,
+            Consumer<FrameVault> call) {
+        if (!may) {
+            refused(maker, what, kind, call);
+            return;
+        }
+        taken(maker, what, 0, vault -> {
+            call.accept(vault);
+            return 0;
+        });
+    }
+
     /** All that can be seen of a vault, in few calls: use it with small shapes. */
     static String stateOf(FrameVault vault) {
+        int frames = vault.about(0);
+        int width = vault.about(1);
+        int height = vault.about(2);
+        int planes = vault.about(3);
         StringBuilder state = new StringBuilder();
         state.append("file ").append(vault.size()).append(' ').append(vault.check(0, vault.size()));
-        for (int what = 1; what <= 3; what++) {
-            state.append(' ').append(vault.about(what));
-        }
-        for (int frame = 0; frame < vault.about(0); frame++) {
+        state.append(' ').append(width).append(' ').append(height).append(' ').append(planes);
+        for (int frame = 0; frame < frames; frame++) {
             state.append(" at ").append(vault.time(frame)).append(':');
-            for (int plane = 0; plane < vault.about(3); plane++) {
-                for (int y = 0; y < vault.about(2); y++) {
-                    for (int x = 0; x < vault.about(1); x++) {
-                        state.append(' ').append(vault.get(frame, plane, x, y));
-                    }
-                }
+            for (int place = 0; place < planes * height * width; place++) {
+                int sample = vault.get(frame, place / (height * width), place % width, place / width % height);
+                state.append(' ').append(sample);
             }
         }
         return state.toString();
@@ -70,7 +104,7 @@ final class Expect {
     private static void tell(String what) {
         wrong++;
         if (wrong <= 20) {
-            System.out.println(what);
+            System.out.println(sentence + what);
         }
     }
 

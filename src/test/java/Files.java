@@ -65,7 +65,8 @@ final class Files {
 
     private int[] element(int id, int[] content) {
         int[] inside = rarely() ? damaged(content) : content;
-        return DocModel.element(rarely() ? random.nextInt(256) : id, random.nextInt(8) == 0, inside);
+        boolean wide = random.nextInt(8) == 0 || inside.length > 126;
+        return DocModel.element(rarely() ? random.nextInt(256) : id, wide, inside);
     }
 
     private int[] part(int[] element) {

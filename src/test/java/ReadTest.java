@@ -54,16 +54,7 @@ public final class ReadTest {
         int check = vault.check(0, vault.size());
         Expect.same(what, vault.read(), place);
         Expect.same(what + ": the file stays", vault.check(0, vault.size()), check);
-        Expect.same(what + ": the model", modelRead(file(parts), new DocModel.Picture[1]), place);
-    }
-
-    private static int modelRead(int[] file, DocModel.Picture[] found) {
-        try {
-            found[0] = new DocModel.Reader(file).picture();
-            return NONE;
-        } catch (DocModel.Fault fault) {
-            return fault.place;
-        }
+        Expect.same(what + ": the model", DocModel.read(file(parts), new DocModel.Picture[1]), place);
     }
 
     private static void keepsWhatItRead() {
@@ -331,7 +322,7 @@ public final class ReadTest {
             Files files = new Files(new Random(seed));
             int[] bytes = files.next();
             DocModel.Picture[] found = new DocModel.Picture[1];
-            int due = modelRead(bytes, found);
+            int due = DocModel.read(bytes, found);
             FrameVault vault = Vaults.withFile(bytes);
             vault.shape(2, 1, 1);
             vault.frame(3);

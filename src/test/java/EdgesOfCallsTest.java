@@ -15,6 +15,7 @@ public final class EdgesOfCallsTest {
         manyCalls();
         twoVaults();
         sameAnswers();
+        oneAfterAnother();
         Expect.end();
     }
 
@@ -231,6 +232,31 @@ public final class EdgesOfCallsTest {
                     checks[which] = check;
                     vault.poke(size - 1, vault.byteAt(size - 1) ^ 1);
                     Expect.same("a wrong check", vault.read(), size - 2);
+                }
+            }
+        });
+    }
+
+    /** Pictures of all kinds, one read behind another by the same vault, and written again. */
+    private static void oneAfterAnother() {
+        Expect.sentence("9", "shape and frames are what it has, whatever was there before", () -> {
+            List<DocModel.Picture> pictures = new ArrayList<>();
+            for (int n = 0; n < 12; n++) {
+                pictures.add(Asides.among(n / 2 % 2, n % 2 == 0 ? 1 : 3, 4, 0, 1, 5, 90, 128, 255).apply(n));
+            }
+            for (DocModel.Picture first : pictures) {
+                for (DocModel.Picture second : pictures) {
+                    FrameVault vault = Vaults.withPicture(first);
+                    vault.write(first.mode, first.slices);
+                    vault.read();
+                    vault.cut(0);
+                    int[] bytes = DocModel.fileOf(second);
+                    Vaults.typeAll(vault, bytes);
+                    Expect.same("read", vault.read(), FrameVault.NONE);
+                    Vaults.hasPicture("the second one", vault, second);
+                    vault.cut(0);
+                    Expect.same("write", vault.write(second.mode, second.slices), bytes.length);
+                    Vaults.hasFile("the second one", vault, bytes);
                 }
             }
         });

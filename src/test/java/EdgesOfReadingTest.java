@@ -16,6 +16,9 @@ public final class EdgesOfReadingTest {
         gaps();
         noGaps();
         moreThanMustBe();
+        movedInside();
+        movedBehind();
+        fullFiles();
         numbers();
         codings();
         times();
@@ -152,6 +155,16 @@ public final class EdgesOfReadingTest {
                 pokeEach("size", first, true);
             }
             pokeEach("size", 255, true);
+            for (int many = 125; many <= 128; many++) {
+                int inside = many;
+                atEach("a gap makes it " + many, (file, node) -> {
+                    if (node.hasElements()) {
+                        node.parts.add(Node.gap(new int[inside]));
+                    }
+                    return NONE;
+                });
+            }
+            longSizes();
         });
         Expect.sentence("To read", "a size of two bytes, though one would do", () -> {
             atEach("wide", (file, node) -> {
@@ -182,6 +195,27 @@ public final class EdgesOfReadingTest {
                 due("a size of " + size[0] + " " + size[1], 1, file.laid(0));
             }
         });
+    }
+
+    /** An element of 126 bytes has the size 254; 255 is no size, though there are 127 bytes. */
+    private static void longSizes() {
+        for (int i = 1; i <= ELEMENTS; i++) {
+            for (int many = 126; many <= 127; many++) {
+                Node file = file();
+                Node node = file.all().get(i);
+                file.laid(0);
+                if (node.hasElements() && node.end - node.at <= many - 2) {
+                    node.parts.add(Node.gap(new int[many - 2 - (node.end - node.at)]));
+                    Node longOne = Node.bare(node.id, 128 + many);
+                    Node parent = file.parentOf(node);
+                    int where = parent.parts.indexOf(node);
+                    parent.parts.set(where, longOne);
+                    parent.parts.addAll(where + 1, node.parts);
+                    int[] bytes = file.laid(0);
+                    due("element " + i + " of " + many, many == 126 ? NONE : longOne.at + 1, bytes);
+                }
+            }
+        }
     }
 
     private static void sizesThatEnd() {
@@ -352,6 +386,72 @@ public final class EdgesOfReadingTest {
                 file.laid(0);
                 return rest.at;
             });
+        });
+    }
+
+    /** The next element is at the end of the one before it: that one does not end where it must. */
+    private static void movedInside() {
+        Expect.sentence("To read", "where an element must end but does not: the next one is in it", () ->
+                atEach("the next one inside", (file, node) -> {
+                    Node parent = file.parentOf(node);
+                    int next = parent.parts.indexOf(node) + 1;
+                    if (!node.hasElements() || next == parent.parts.size()) {
+                        return NONE;
+                    }
+                    Node moved = parent.parts.remove(next);
+                    node.parts.add(moved);
+                    file.laid(0);
+                    return moved.idAt;
+                }));
+    }
+
+    /** The last part of an element is behind it: the end of the element is where it must be. */
+    private static void movedBehind() {
+        Expect.sentence("To read", "or the end of the element, where [an id] must be: it is behind the element", () ->
+                atEach("the last one behind", (file, node) -> {
+                    if (!node.hasElements()) {
+                        return NONE;
+                    }
+                    boolean mayBeMissing = node.id == 24;
+                    Node parent = file.parentOf(node);
+                    Node moved = node.parts.remove(node.parts.size() - 1);
+                    parent.parts.add(parent.parts.indexOf(node) + 1, moved);
+                    file.laid(0);
+                    return mayBeMissing ? moved.idAt : node.end;
+                }));
+    }
+
+    /** The file is full, so that behind its last byte there is nothing at all. */
+    private static void fullFiles() {
+        Expect.sentence("To read", "a size that is not whole, or beyond the end, at the end of a full file", () -> {
+            int[][] ends = {{236}, {236, 64}, {236, 127}, {236, 63}, {236, 129}, {236, 255}, {236, 64, 1}, {236, 130, 0},
+                {24}, {0}, {236, 128, 236}};
+            int[] places = {1, 1, 1, 1, 1, 1, 1, 1, 0, 0, 3};
+            for (int k = 0; k < ends.length; k++) {
+                Node file = file();
+                int used = file.laid(0).length;
+                file.parts.add(Node.gap(new int[1200 - used - 3 - ends[k].length]));
+                Node rest = Node.bare(ends[k]);
+                file.parts.add(rest);
+                int[] bytes = file.laid(0);
+                Expect.same("its size", bytes.length, 1200);
+                due("ends with " + Arrays.toString(ends[k]), rest.at + places[k], bytes);
+            }
+        });
+        Expect.sentence("To read", "a frame at the end of a full file", () -> {
+            for (int cut = 0; cut <= 12; cut++) {
+                Node body = Node.of(24, track(2, 2, 1, 2), frame(5));
+                Node file = Node.of(Node.NO_ID, head(), body);
+                int used = file.laid(0).length;
+                Node block = body.parts.get(1).parts.get(1);
+                block.bytes = Arrays.copyOf(block.bytes, block.bytes.length - cut);
+                file.parts.add(1, Node.gap(new int[1200 - used + cut - 4]));
+                body.wide = true;
+                int[] bytes = file.laid(0);
+                Expect.same("its size", bytes.length, 1200);
+                int second = block.at + (block.bytes.length + cut) / 2;
+                due("without its last " + cut, cut == 0 ? NONE : cut <= block.end + cut - second ? second : block.at, bytes);
+            }
         });
     }
 

@@ -13,6 +13,7 @@ public final class EdgesOfValuesTest {
             differencesOfOthers(mode);
             turning(mode);
             sets(mode);
+            lastContexts(mode);
             steps(mode);
             neighbours(mode);
             rows(mode);
@@ -112,6 +113,26 @@ public final class EdgesOfValuesTest {
             int[][] others = {{0, 0, 0}, {0, 0, 1}, {0, 1, 0}, {0, 1, 2}};
             for (int[] set : others) {
                 Asides.told("sets " + set[0] + set[1] + set[2], Asides.among(mode, 3, 3, NEAR), rules -> rules.set = set);
+            }
+        });
+    }
+
+    /** c at the middle place of the second row is 62, 61, 60, or as much below 0, or near 0. */
+    private static void lastContexts(int mode) {
+        Expect.sentence("Values", "the context is c, 0 .. 62", () -> {
+            int[][] rows = {{20, 10, 0, 30, 62}, {20, 10, 5, 25, 62}, {20, 10, 6, 25, 61}, {20, 10, 10, 25, 60},
+                {20, 10, 11, 25, 59}, {20, 16, 0, 25, 57}, {10, 20, 30, 0, -62}, {10, 20, 24, 5, -61},
+                {10, 20, 20, 5, -60}, {10, 10, 10, 10, 0}, {10, 10, 9, 10, 1}, {10, 10, 11, 10, -1},
+                {10, 10, 5, 10, 2}, {10, 10, 15, 10, -2}, {10, 9, 20, 10, 3}, {10, 11, 0, 10, -3}};
+            for (int[] r : rows) {
+                for (int middle : new int[] {0, 9, 10, 11, 200, 255}) {
+                    int[][] values = {{r[0], r[1], r[2]}, {r[3], middle, 10}, {r[0], r[1], r[2]}, {r[3], middle, 10}};
+                    Expect.same("c", DocModel.guessAndContext(values, 0, 1, 1, new Rules())[1], r[4]);
+                    int[][] none = new int[4][3];
+                    Asides.both("v0, c " + r[4], Asides.picture(mode, 1, values));
+                    Asides.both("v1, c " + r[4], Asides.picture(mode, 1, none, none, values));
+                    Asides.both("v2, c " + r[4], Asides.picture(mode, 1, values, none, none));
+                }
             }
         });
     }

@@ -7,10 +7,15 @@ import java.util.TreeSet;
 
 /** The public face is that of the document, and nothing else can be seen (rule 1 of LANGUAGE.md). */
 public final class FaceTest {
+    private static final String ARGUMENT = " IllegalArgumentException";
+    private static final String STATE = " IllegalStateException";
+    private static final String INDEX = " IndexOutOfBoundsException";
     private static final String[] METHODS = {
-        "void shape(int,int,int)", "int frame(int)", "int set(int,int,int,int,int)", "int get(int,int,int,int)",
-        "int time(int)", "int about(int)", "int write(int,int)", "int read()", "int size()", "int byteAt(int)",
-        "void poke(int,int)", "int type(long,int)", "void cut(int)", "int check(int,int)",
+        "void shape(int,int,int)" + ARGUMENT, "int frame(int)" + ARGUMENT + STATE,
+        "int set(int,int,int,int,int)" + INDEX + ARGUMENT, "int get(int,int,int,int)" + INDEX,
+        "int time(int)" + INDEX, "int about(int)" + ARGUMENT, "int write(int,int)" + ARGUMENT + STATE,
+        "int read()", "int size()", "int byteAt(int)" + INDEX, "void poke(int,int)" + INDEX + ARGUMENT,
+        "int type(long,int)" + ARGUMENT + STATE, "void cut(int)" + ARGUMENT, "int check(int,int)" + INDEX + ARGUMENT,
     };
 
     public static void main(String[] args) {
@@ -46,7 +51,11 @@ public final class FaceTest {
         for (Class<?> kind : method.getParameterTypes()) {
             text.append(text.charAt(text.length() - 1) == '(' ? "" : ",").append(kind);
         }
-        return text.append(')').toString();
+        text.append(')');
+        for (Class<?> kind : method.getExceptionTypes()) {
+            text.append(' ').append(kind.getSimpleName());
+        }
+        return text.toString();
     }
 
     private static void lookAtFields(Class<?> face) {

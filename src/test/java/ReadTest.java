@@ -319,7 +319,7 @@ public final class ReadTest {
     private static void againstModel() {
         int good = 0;
         for (int seed = 0; seed < 4000; seed++) {
-            Files files = new Files(new Random(seed));
+            ChanceFiles files = new ChanceFiles(new Random(seed));
             int[] bytes = files.next();
             DocModel.Picture[] found = new DocModel.Picture[1];
             int due = DocModel.read(bytes, found);

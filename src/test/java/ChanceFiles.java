@@ -2,12 +2,12 @@ import java.util.Arrays;
 import java.util.Random;
 
 /** Files by chance: most have a fault or two, of all the kinds that a file can have. */
-final class Files {
+final class ChanceFiles {
     private final Random random;
     private final boolean faulty;
     private final DocModel.Picture picture = new DocModel.Picture();
 
-    Files(Random random) {
+    ChanceFiles(Random random) {
         this.random = random;
         this.faulty = random.nextInt(3) > 0;
     }
